@@ -37,7 +37,7 @@ final class BeginTest {
     /** All numbers are given out from 0 again, up to their bounds, and no old checkpoint is kept. */
     private static void begins(String when, OrphanRuntime x) {
         for (int k = 0; k < 24; k++) {
-            DUE.is(when + ": input " + k, x.input(0, 3 - (k == 0 ? 0 : 93)), k);
+            DUE.is(when + ": input " + k, x.input(0, 7 - (k == 0 ? 0 : 31 * 7)), k);
         }
         DUE.is(when + ": input 24", x.input(0, 3), -1);
         for (int k = 0; k < 24; k++) {
@@ -47,6 +47,9 @@ final class BeginTest {
             DUE.is(when + ": deliver " + (24 + 2 * k), x.deliver(24 + 2 * k), 24 + k);
         }
         DUE.is(when + ": deliver beyond", x.deliver(24 + 2 * 16), -1);
+        DUE.is(when + ": orphans among many", x.orphans(), 0);
+        DUE.is(when + ": release", x.release(0), 24);
+        DUE.is(when + ": released", x.released(0, 23), 7);
         DUE.is(when + ": flush", x.flush(1), 16);
         DUE.is(when + ": crash", x.crash(0), 0);
         DUE.is(when + ": restart", x.restart(0), 24);

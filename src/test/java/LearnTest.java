@@ -74,6 +74,8 @@ final class LearnTest {
         x.restart(1);
         DUE.is("process 0 undoes", x.learn(0), 1);
         DUE.is("its message's source depends on the lost one", x.status(6), 3);
+        DUE.is("what is discarded is not sent again", x.resend(2), 0);
+        DUE.is("it stays discarded", x.status(6), 3);
         DUE.is("process 2 undoes", x.learn(2), 1);
         DUE.is("no orphans", x.orphans(), 0);
     }

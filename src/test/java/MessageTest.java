@@ -12,6 +12,7 @@ final class MessageTest {
         deliverWraps();
         deliverRefused();
         deliverHeld();
+        deliverNotHeldByWhatTheSourceHasNotLearned();
         deliverOrphan();
         deliverWithoutLearningIsNoOrphan();
         deliverAtTheEndIsRefusedFirst();
@@ -144,6 +145,14 @@ final class MessageTest {
         x.restart(2);
         DUE.is("no more held", x.deliver(4), 3);
         DUE.is("TAKEN", x.status(4), 1);
+    }
+
+    private static void deliverNotHeldByWhatTheSourceHasNotLearned() {
+        OrphanRuntime x = new OrphanRuntime();
+        x.crash(2);
+        x.restart(2);
+        int m = Runs.bring(x, 0, 1);
+        DUE.is("neither has learned the announcement", x.deliver(m + 1), 1);
     }
 
     private static void deliverOrphan() {
