@@ -1,3 +1,5 @@
+import java.util.function.Supplier;
+
 /** Promises 1 and 2: a new object, and one that is renewed. */
 final class BeginTest {
     private static final Due DUE = new Due("BeginTest");
@@ -7,6 +9,7 @@ final class BeginTest {
         begins("new", new OrphanRuntime());
         renewed();
         renewedTwice();
+        renewedIsLikeNew();
         objectsDoNotShare();
         DUE.end();
     }
@@ -79,8 +82,10 @@ final class BeginTest {
         x.renew();
         begins("renewed", x);
         x.renew();
-        isNew("renewed when full", x);
         begins("renewed when full", x);
+        x = Runs.full();
+        x.renew();
+        isNew("renewed when full", x);
     }
 
     private static void renewedTwice() {
@@ -89,6 +94,52 @@ final class BeginTest {
         x.renew();
         isNew("renewed twice", x);
         DUE.is("input after renewing twice", x.input(1, 5), 0);
+    }
+
+    /** 'as in the constructor': after the limits, while one is down, while all are, with orphans. */
+    private static void renewedIsLikeNew() {
+        renewedIsLikeNew("new", OrphanRuntime::new);
+        renewedIsLikeNew("used", BeginTest::used);
+        renewedIsLikeNew("busy", Runs::busy);
+        renewedIsLikeNew("full", Runs::full);
+        renewedIsLikeNew("two lost", Runs::twoLost);
+        renewedIsLikeNew("all inputs wait", () -> {
+            OrphanRuntime x = new OrphanRuntime();
+            for (int k = 0; k < 25; k++) {
+                x.input(k % 3, k);
+            }
+            return x;
+        });
+        for (int p = 0; p < 3; p++) {
+            int q = p;
+            renewedIsLikeNew("full and down " + p, () -> down(Runs.full(), q, q));
+        }
+        renewedIsLikeNew("full and all down", () -> down(Runs.full(), 0, 2));
+        renewedIsLikeNew("busy and all down", () -> down(Runs.busy(), 0, 2));
+        renewedIsLikeNew("full, lost and learned", () -> {
+            OrphanRuntime x = down(Runs.full(), 0, 2);
+            for (int p = 0; p < 3; p++) {
+                x.restart(p);
+                x.release(p);
+                x.checkpoint(p);
+            }
+            return x;
+        });
+    }
+
+    private static OrphanRuntime down(OrphanRuntime x, int from, int to) {
+        for (int p = from; p <= to; p++) {
+            x.crash(p);
+        }
+        return x;
+    }
+
+    private static void renewedIsLikeNew(String when, Supplier<OrphanRuntime> run) {
+        Twins.alike(DUE, "renewed when " + when, () -> {
+            OrphanRuntime x = run.get();
+            x.renew();
+            return x;
+        }, OrphanRuntime::new);
     }
 
     private static void objectsDoNotShare() {

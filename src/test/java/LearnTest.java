@@ -17,6 +17,8 @@ final class LearnTest {
         countsOrphans();
         countsOrphansOfThoseUp();
         countsOrphansBehindOrphans();
+        countsNoLostOnes();
+        forgetsNone();
         DUE.end();
     }
 
@@ -211,5 +213,38 @@ final class LearnTest {
         DUE.is("two of process 2, one of process 0", x.orphans(), 3);
         x.crash(0);
         DUE.is("two of process 2", x.orphans(), 2);
+    }
+
+    /** A lost interval is on no chain, and all on a chain that is down are left out. */
+    private static void countsNoLostOnes() {
+        OrphanRuntime x = Runs.oneUnstable();
+        DUE.is("lost", x.crash(1), 1);
+        DUE.is("none stands on it", x.orphans(), 0);
+        DUE.is("received when it was lost", x.deliver(3), 2);
+        DUE.is("that one does", x.orphans(), 1);
+        x.restart(1);
+        DUE.is("announced", x.orphans(), 1);
+        x.flush(2);
+        DUE.is("stable", x.orphans(), 1);
+        x.crash(2);
+        DUE.is("down", x.orphans(), 0);
+        x.crash(0);
+        x.crash(1);
+        DUE.is("all down", x.orphans(), 0);
+    }
+
+    /** '(A crash makes it forget none.)': nor what they were about. */
+    private static void forgetsNone() {
+        OrphanRuntime x = Runs.oneUnstable();
+        x.crash(1);
+        x.restart(1);
+        x.learn(2);
+        DUE.is("learned", x.known(2), 1);
+        x.crash(2);
+        DUE.is("while down", x.known(2), 1);
+        DUE.is("the others'", x.known(0) * 10 + x.known(1), 1);
+        x.restart(2);
+        DUE.is("and its own", x.known(2), 2);
+        DUE.is("it still knows what is lost", x.deliver(3), -3);
     }
 }

@@ -1,8 +1,8 @@
 /** Promises 1 to 20: long mixed runs, every answer and all that can be asked compared with the model. */
 final class ModelTest {
     private static final Due DUE = new Due("ModelTest");
-    private static final int RUNS = 3000;
-    private static final int CALLS = 512;
+    private static final int RUNS = 12000;
+    private static final int CALLS = 340;
     /** Seen answers: without these a run would prove little. */
     private static int held;
     private static int orphan;
@@ -66,15 +66,15 @@ final class ModelTest {
         return below(64) - 16;
     }
 
+    /** So many calls that those of the look at the end stay within what one object promises. */
     private void play(int run) {
         // Some runs crash seldom, so that chains grow; some crash often, so that announcements do.
         int crashes = 1 + run % 5 * 3;
-        for (int call = 0; call < CALLS; call++) {
-            one("run " + run + ", call " + call + ": ", below(70 + crashes), run);
-            if (call % 4 == 0) {
-                compare("run " + run + ", after call " + call + ": ");
-            }
+        int calls = run % 2 == 0 ? CALLS : 1 + below(CALLS);
+        for (int call = 0; call < calls; call++) {
+            one("run " + run + ", call " + call + ": ", below(80 + crashes), run);
         }
+        compare("run " + run + ", after " + calls + " calls: ");
         if (model.deliver(model.input(0, 0)) == -1 && model.length(0) != -1) {
             fullOfIntervals++;
         }
@@ -107,8 +107,25 @@ final class ModelTest {
                 x.renew();
                 model.renew();
             }
+        } else if (kind < 80) {
+            asked(at, p, kind);
         } else {
             DUE.is(at + "crash", x.crash(p), model.crash(p));
+        }
+    }
+
+    private void asked(String at, int p, int kind) {
+        int k = below(9) - 1;
+        int m = message();
+        switch (kind) {
+            case 70 -> DUE.is(at + "released", x.released(p, k), model.released(p, k));
+            case 71 -> DUE.is(at + "outputs", x.outputs(p), model.outputs(p));
+            case 72 -> DUE.is(at + "state", x.state(p), model.state(p));
+            case 73 -> DUE.is(at + "length", x.length(p), model.length(p));
+            case 74 -> DUE.is(at + "known", x.known(p), model.known(p));
+            case 75 -> DUE.is(at + "status", x.status(m), model.status(m));
+            case 76 -> DUE.is(at + "replayed", x.replayed(p), model.replayed(p));
+            default -> DUE.is(at + "orphans", x.orphans(), model.orphans());
         }
     }
 
@@ -136,7 +153,7 @@ final class ModelTest {
     }
 
     private void compare(String at) {
-        for (int p = -1; p <= 3; p++) {
+        for (int p = 0; p < 3; p++) {
             DUE.is(at + "state " + p, x.state(p), model.state(p));
             DUE.is(at + "length " + p, x.length(p), model.length(p));
             DUE.is(at + "known " + p, x.known(p), model.known(p));
@@ -146,7 +163,7 @@ final class ModelTest {
                 DUE.is(at + "released " + p + ", " + k, x.released(p, k), model.released(p, k));
             }
         }
-        for (int m = -1; m <= 105; m++) {
+        for (int m = 0; m <= 104; m++) {
             DUE.is(at + "status " + m, x.status(m), model.status(m));
         }
         DUE.is(at + "orphans", x.orphans(), model.orphans());

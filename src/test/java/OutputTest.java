@@ -7,11 +7,16 @@ final class OutputTest {
         releasesInOrderAndOnce();
         waitsForItself();
         waitsForTheSource();
+        waitsForTheSourceOfTheSource();
         waitsForAllBefore();
+        releasesEqualStates();
+        releasesWhatIsReceivedAgain();
+        doesNotFlush();
         neverReleasesOrphans();
         keepsWhatWasReleased();
         refused();
         releasedWithoutOne();
+        releasedOfEachProcess();
         DUE.end();
     }
 
@@ -70,6 +75,49 @@ final class OutputTest {
         DUE.is("process 1 is stable", x.release(2), 1);
         DUE.is("released", x.released(2, 0), 4);
         DUE.is("taken", x.status(m), 1);
+    }
+
+    /** Process 0's output is stable, and so is process 2's interval below it, but not process 1's below that. */
+    private static void waitsForTheSourceOfTheSource() {
+        OrphanRuntime x = Runs.oneOrphan();
+        int m = Runs.bring(x, 2, 9) + 1;
+        DUE.is("received", x.deliver(m), 4);
+        Runs.bring(x, 0, 4);
+        DUE.is("processes 0 and 2 are stable", x.flush(0) + x.flush(2), 0);
+        DUE.is("process 1 is not", x.release(0), 0);
+        DUE.is("process 1 becomes stable", x.flush(1), 1);
+        DUE.is("now", x.release(0), 1);
+        DUE.is("released", x.released(0, 0), 4);
+    }
+
+    /** An output is an interval's: two intervals with the same state have two. */
+    private static void releasesEqualStates() {
+        OrphanRuntime x = new OrphanRuntime();
+        Runs.bring(x, 0, 4);
+        Runs.bring(x, 0, 4);
+        DUE.is("two", x.release(0), 2);
+        Runs.bring(x, 0, 4);
+        DUE.is("a third", x.release(0), 1);
+        DUE.is("no fourth", x.release(0), 0);
+        DUE.is("outputs", x.outputs(0), 3);
+    }
+
+    private static void releasesWhatIsReceivedAgain() {
+        OrphanRuntime x = outputNotStable();
+        DUE.is("lost", x.crash(1), 1);
+        x.restart(1);
+        DUE.is("a lost one is not released", x.release(1), 0);
+        x.resend(0);
+        x.deliver(1);
+        x.flush(1);
+        DUE.is("the new one is", x.release(1), 1);
+        DUE.is("once", x.release(1), 0);
+    }
+
+    private static void doesNotFlush() {
+        OrphanRuntime x = outputNotStable();
+        x.release(1);
+        DUE.is("still not stable", x.flush(1), 1);
     }
 
     private static void waitsForAllBefore() {
@@ -136,5 +184,23 @@ final class OutputTest {
             DUE.is("released " + k, x.released(0, k), 0);
         }
         DUE.is("released 0", x.released(0, 0), 4);
+    }
+
+    /** 'The k-th output (from 0) that p released': the first, the last, and none on either side. */
+    private static void releasedOfEachProcess() {
+        for (int p = 0; p < 3; p++) {
+            OrphanRuntime x = new OrphanRuntime();
+            for (int k = 0; k < 24; k++) {
+                Runs.bring(x, p, 4 + 8 * k);
+            }
+            DUE.is("release", x.release(p), 24);
+            DUE.is("outputs", x.outputs(p), 24);
+            DUE.is("before the first", x.released(p, -1), 0);
+            for (int k = 0; k < 24; k++) {
+                DUE.is("released " + k, x.released(p, k), 4 + 8 * k);
+            }
+            DUE.is("behind the last", x.released(p, 24), 0);
+            DUE.is("another's", x.released((p + 1) % 3, 0) + x.released((p + 2) % 3, 0), 0);
+        }
     }
 }
